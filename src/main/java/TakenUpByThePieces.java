@@ -50,6 +50,8 @@ public final class TakenUpByThePieces {
     private static final int STAND_DAYS = 20;
     private static final int OFF_DAYS = 30;
     private static final int TWO_DAYS = 30;
+    /** A pair of choices is a number of two bits, the one's above the other's. */
+    private static final int PAIRS = 4;
     private static final int RAIN_DAYS = 7;
     private static final int MOST_GAMES = 20;
     private static final int GAME_DAYS = 16;
@@ -62,8 +64,8 @@ public final class TakenUpByThePieces {
     private final Board[] minds = new Board[RAIN_DAYS + 1];
     private final Board mind = new Board();
     private final Board asItIs = new Board();
-    private final int[] gainsOfOne = new int[4];
-    private final int[] gainsOfOther = new int[4];
+    private final int[] gainsOfOne = new int[PAIRS];
+    private final int[] gainsOfOther = new int[PAIRS];
     private int seed = 0;
 
     public TakenUpByThePieces() {
@@ -90,7 +92,19 @@ public final class TakenUpByThePieces {
             return OTHER_KIND;
         }
         int wrong = text.wrongByte();
-        return wrong == NONE ? gameTold(text) : WRONG_BYTE - wrong;
+        if (wrong != NONE) {
+            return WRONG_BYTE - wrong;
+        }
+        int statements = 0;
+        mind.becomes(now);
+        for (int place = 0; place < text.size; place += 2 + Math.max(0, text.digitsBehind(place))) {
+            if (!isDone(text, place)) {
+                return WRONG_STATEMENT - place;
+            }
+            statements++;
+        }
+        now.becomes(mind);
+        return statements;
     }
 
     public int piece(int p, int what) {
@@ -393,8 +407,7 @@ public final class TakenUpByThePieces {
         if (!now.isThere(a) || !now.isThere(b)) {
             return NOT_SO;
         }
-        // A pair of choices is a number of two bits, the one's above the other's.
-        for (int pair = 0; pair < gainsOfOne.length && pair < gainsOfOther.length; pair++) {
+        for (int pair = 0; pair < PAIRS; pair++) {
             int mute = ((pair & 2) == 0 ? 1 << a : 0) | ((pair & 1) == 0 ? 1 << b : 0);
             mind.becomes(now);
             for (int i = 0; i < n; i++) {
@@ -637,28 +650,16 @@ public final class TakenUpByThePieces {
     }
 
     private static int far(int square, int other) {
-        int rows = Math.abs(square / WIDTH - other / WIDTH);
-        int columns = Math.abs(square % WIDTH - other % WIDTH);
+        int rows = square / WIDTH - other / WIDTH;
+        int columns = square % WIDTH - other % WIDTH;
+        rows = rows < 0 ? -rows : rows;
+        columns = columns < 0 ? -columns : columns;
         return rows > columns ? rows : columns;
     }
 
     /** The SHELF with that number; null: there is none. */
     private Shelf shelfAt(int d) {
         return d >= 0 && d < shelves.length ? shelves[d] : null;
-    }
-
-    /** The text, without a wrong byte, is done as a whole or not at all: the answer of game. */
-    private int gameTold(Shelf text) {
-        int statements = 0;
-        mind.becomes(now);
-        for (int place = 0; place < text.size; place += 2 + Math.max(0, text.digitsBehind(place))) {
-            if (!isDone(text, place)) {
-                return WRONG_STATEMENT - place;
-            }
-            statements++;
-        }
-        now.becomes(mind);
-        return statements;
     }
 
     /** Does the STATEMENT at a place, in mind: whether it is as it must be. */
@@ -715,11 +716,10 @@ public final class TakenUpByThePieces {
     }
 
     private int firstPairAtRest() {
-        for (int pair = 0; pair < gainsOfOne.length && pair < gainsOfOther.length; pair++) {
-            int oneElse = pair ^ 2;
-            int otherElse = pair ^ 1;
-            if (oneElse < gainsOfOne.length && otherElse < gainsOfOther.length
-                    && gainsOfOne[oneElse] <= gainsOfOne[pair] && gainsOfOther[otherElse] <= gainsOfOther[pair]) {
+        for (int pair = 0; pair < PAIRS; pair++) {
+            boolean oneRests = gainsOfOne[pair] >= gainsOfOne[pair ^ 2];
+            boolean otherRests = gainsOfOther[pair] >= gainsOfOther[pair ^ 1];
+            if (oneRests && otherRests) {
                 return 10 * (pair >> 1) + (pair & 1);
             }
         }
@@ -830,7 +830,7 @@ public final class TakenUpByThePieces {
             }
         }
 
-        /** Throws the FAILURE of the KIND, another one for ROOKS and for DEAF ones; comes back if there is none. */
+        /** Throws the FAILURE, another for ROOKS and for DEAF ones; comes back if there is none. */
         static void failWith(int kind, int figure) {
             if (figure == 0 || kind == KING || kind == BISHOP || kind == NUN) {
                 return;
@@ -883,7 +883,7 @@ public final class TakenUpByThePieces {
         }
 
         boolean isThereOf(int p, int ofSide) {
-            return isThere(p) && side[p] == ofSide;
+            return p >= 0 && p < count && p < MOST_PIECES && side[p] == ofSide && square[p] != TAKEN;
         }
 
         int squareOf(int p) {
@@ -895,15 +895,12 @@ public final class TakenUpByThePieces {
         }
 
         boolean isFree(int s) {
-            return isSquare(s) && standing[s] == NONE;
+            return s >= 0 && s < SQUARES && standing[s] == NONE;
         }
 
         boolean isHeldBy(int s, int ofSide) {
-            if (!isSquare(s)) {
-                return false;
-            }
-            int p = standing[s];
-            return has(p) && side[p] == ofSide;
+            int p = s >= 0 && s < SQUARES ? standing[s] : NONE;
+            return p >= 0 && p < count && p < MOST_PIECES && side[p] == ofSide;
         }
 
         // ---- changes: each answers whether it could be
@@ -968,7 +965,9 @@ public final class TakenUpByThePieces {
             if (n < 1 || n > MOST_DAYS || day + n > LAST_DAY) {
                 return false;
             }
-            passDays(n);
+            for (int i = 0; i < n; i++) {
+                passDay(0, false);
+            }
             return true;
         }
 
@@ -980,7 +979,7 @@ public final class TakenUpByThePieces {
             }
         }
 
-        /** A DAY on which those in mute (bits) have no IDEAS, and in rain all EARS are 1: whether one went. */
+        /** A DAY, those in mute (bits) without IDEAS, all EARS 1 if it rains: whether one went. */
         boolean passDay(int mute, boolean rains) {
             day++;
             int p = goerOn(day, mute, rains);
@@ -1042,9 +1041,15 @@ public final class TakenUpByThePieces {
                 case ROOK:
                 case DEAF: return slideIdea(p, 1, 0);
                 case BISHOP: return bishopIdea(p, d);
-                case QUEEN: return queenIdea(p);
+                case QUEEN: {
+                    int ahead = slideIdea(p, 1, 0);
+                    return ahead != NONE ? ahead : slideIdea(p, 0, 1);
+                }
                 case KING: return kingIdea(p);
-                case NUN: return nunIdea(p, d);
+                case NUN: {
+                    int left = squareFrom(p, 0, -1);
+                    return isFree(left) ? left : bishopIdea(p, d);
+                }
                 default: return pawnIdea(p);
             }
         }
@@ -1074,11 +1079,6 @@ public final class TakenUpByThePieces {
             return isItsDay && right != NONE && !isHeldBy(right, side[p]) ? right : NONE;
         }
 
-        int queenIdea(int p) {
-            int ahead = slideIdea(p, 1, 0);
-            return ahead != NONE ? ahead : slideIdea(p, 0, 1);
-        }
-
         int kingIdea(int p) {
             int back = squareFrom(p, -1, 0);
             if (!isFree(back)) {
@@ -1090,11 +1090,6 @@ public final class TakenUpByThePieces {
                 }
             }
             return NONE;
-        }
-
-        int nunIdea(int p, int d) {
-            int left = squareFrom(p, 0, -1);
-            return isFree(left) ? left : bishopIdea(p, d);
         }
 
         /** As far as it goes that way over free ones, or to the first of the other SIDE. */
@@ -1113,7 +1108,7 @@ public final class TakenUpByThePieces {
             return reached;
         }
 
-        /** The SQUARE so many rows FORWARD and columns to the right of one that is THERE; NONE off the board. */
+        /** The SQUARE so many rows FORWARD and columns right of one that is THERE; NONE: off the board. */
         int squareFrom(int p, int rows, int columns) {
             int row = square[p] / WIDTH + (side[p] == 0 ? rows : -rows);
             int column = square[p] % WIDTH + columns;
