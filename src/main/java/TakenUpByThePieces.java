@@ -800,6 +800,7 @@ public final class TakenUpByThePieces {
                 case QUEEN: return figure + 3;
                 case KING: return 5;
                 case DEAF: return 0;
+                case PAWN:
                 default: return PAWN_EARS;
             }
         }
@@ -813,6 +814,7 @@ public final class TakenUpByThePieces {
                 case QUEEN: return 2 * ROOK_WORTH - 1;
                 case KING: return 9;
                 case DEAF: return ROOK_WORTH - 1;
+                case PAWN:
                 default: return PAWN_WORTH;
             }
         }
@@ -826,6 +828,7 @@ public final class TakenUpByThePieces {
                 case QUEEN: return 2 * (PAWN_COST + figure);
                 case KING: return 0;
                 case NUN: return BISHOP_COST / 2;
+                case PAWN:
                 default: return PAWN_COST;
             }
         }
@@ -1050,6 +1053,7 @@ public final class TakenUpByThePieces {
                     int left = squareFrom(p, 0, -1);
                     return isFree(left) ? left : bishopIdea(p, d);
                 }
+                case PAWN:
                 default: return pawnIdea(p);
             }
         }

@@ -1329,6 +1329,17 @@ public final class ModelTest {
         }
     }
 
+    static void seedsAtTheEdge() {
+        x = new TakenUpByThePieces();
+        m = new Model();
+        tell(0, "p00000;p13101;p25002;p34103;p45004;p55105;p66006;p77107;p02008;p15109;");
+        for (int z : new int[] {0, 1, -1, -9, 12345, Integer.MIN_VALUE, Integer.MAX_VALUE}) {
+            for (int what = 0; what < 2; what++) {
+                same("games(20," + z + "," + what + ")", x.games(20, z, what), m.games(20, z, what));
+            }
+        }
+    }
+
     /** Boards on which two have no pair, or both have IDEAS: too rare to come by chance. */
     static void rarePairs() {
         for (String text : new String[] {"p51026;p60114;p42132;p42002;", "p41131;p61006;p22013;p71001;p41125;",
@@ -1357,6 +1368,7 @@ public final class ModelTest {
 
     public static void main(String[] args) {
         rarePairs();
+        seedsAtTheEdge();
         for (objects = 0; objects < OBJECTS && wrong == 0; objects++) {
             random = new Random(objects);
             x = new TakenUpByThePieces();

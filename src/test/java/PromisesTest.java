@@ -278,6 +278,7 @@ public final class PromisesTest {
         idea("p50014;p00121;x1;", -4);
         idea("p50002;p00103;", -4);
         idea("p50114;p00009;", 20);
+        is("a KING near PIECE 0", told("p00009;p50114;").piece(1, 6), 20);
         idea("p50011;p00112;", -4);
         idea("p70014;", 13);
         idea("p70114;", 13);
@@ -433,6 +434,15 @@ public final class PromisesTest {
         leaves("p20002;p00132;", "falls(-1)", x -> x.falls(-1), 1);
         leaves("p00002;", "falls(-1)", x -> x.falls(-1), -4);
         leaves("p00002;x0;", "falls(-1)", x -> x.falls(-1), -4);
+        leaves("p00132;p20002;", "falls(-1), the first", x -> x.falls(-1), 0);
+        // The BISHOP goes on white's DAYS that 11 divides: 11, 33, .. or, if black has the first, 22, 44, ..
+        leaves("p39014;p00015;p00121;", "on DAY 11", x -> x.falls(2), 11);
+        leaves("p39014;p00015;p00121;t1;", "on DAY 22", x -> x.falls(2), 22);
+        leaves("p39014;p00015;p00121;t1;", "on DAY 22", x -> x.falls(-1), 2);
+        leaves("p30033;p30131;p38101;p25028;p77004;d21;", "behind 60 DAYS", x -> x.falls(1), 60);
+        leaves("p30033;p30131;p38101;p25028;p77004;d21;", "behind 60 DAYS", x -> x.falls(-1), 1);
+        leaves("p30033;p30131;p38101;p25028;p77004;d20;", "behind 61 DAYS", x -> x.falls(1), -4);
+        leaves("p30033;p30131;p38101;p25028;p77004;d20;", "behind 61 DAYS", x -> x.falls(-1), -4);
         // A black PAWN TAKEN already does not count; of those THERE, 2 is the first.
         leaves("p20002;p00108;p00132;x1;", "falls(-1)", x -> x.falls(-1), 2);
         leaves("", "falls(-1)", x -> x.falls(-1), -4);
@@ -473,6 +483,8 @@ public final class PromisesTest {
         leaves("p00102;t1;p00132;", "who, one of two", x -> x.next(0), -4);
         leaves("p00102;t1;p00113;", "who, two of two", x -> x.next(0), 1);
         leaves("p00102;t1;p00113;", "where to", x -> x.next(1), 7);
+        leaves("d02;p31014;", "on the next DAY", x -> x.next(1), 21);
+        leaves("d60;d60;d60;d60;p31014;", "on no other DAY", x -> x.next(0), -4);
         for (int what : new int[] {-1, 3, LEAST, MOST}) {
             leaves("p00002;", "next(" + what + ")", x -> x.next(what), -1);
         }
@@ -508,6 +520,10 @@ public final class PromisesTest {
         leaves("p60002;p60033;p60029;p00132;", "not agreed", x -> x.danger(1), 8);
         leaves("d01;p30014;p00121;", "on the next DAY", x -> x.danger(1), 2);
         leaves("d02;p30014;p00121;", "on the next DAY", x -> x.danger(1), 0);
+        leaves("d02;p31014;p00121;", "on the next DAY", x -> x.danger(1), 2);
+        leaves("d01;p31014;p00121;", "on the next DAY", x -> x.danger(1), 0);
+        leaves("p20000;p20130;", "the corner", x -> x.danger(0), 1);
+        leaves("p20130;p20000;", "the corner, the first", x -> x.danger(0), 2);
         for (int side : new int[] {-1, 2, LEAST, MOST}) {
             leaves("p00002;", "danger(" + side + ")", x -> x.danger(side), -1);
         }
@@ -521,6 +537,8 @@ public final class PromisesTest {
         leaves("p20000;p40127;", "difference, no DAYS", x -> x.stand(0, 0, 1), 96);
         leaves("p20003;p40127;p00001;", "its own, too", x -> x.stand(0, 1, 0), 3);
         leaves("p20007;p00000;p00001;", "the least free one", x -> x.stand(0, 20, 0), 2);
+        leaves("t1;p20100;p40008;", "black's, where", x -> x.stand(0, 1, 0), 14);
+        leaves("t1;p20100;p40008;", "black's, difference", x -> x.stand(0, 1, 1), 105);
         leaves("p20000;x0;", "TAKEN", x -> x.stand(0, 1, 0), -3);
         leaves("p20000;x0;", "-1 goes ahead", x -> x.stand(0, 21, 0), -1);
         leaves("p20000;", "n -1", x -> x.stand(0, -1, 0), -1);
@@ -583,6 +601,9 @@ public final class PromisesTest {
         leaves("p60000;p25005;p60035;", "heard by it", x -> x.side(0, 0), 1);
         leaves("p60000;p24005;p60035;", "too far", x -> x.side(0, 0), 3);
         leaves("p60000;p60001;", "DEAF ones", x -> x.side(0, 0), 2);
+        leaves("p60000;p60001;p60002;p60003;p60004;p25005;", "five are heard by one", x -> x.side(0, 0), 1);
+        leaves("p00030;p00025;p00020;p00015;p00010;p00005;", "a long chain", x -> x.side(0, 0), 1);
+        leaves("p20000;p20001;p21002;p21003;p21004;p00005;", "each is heard by the one behind", x -> x.side(0, 0), 2);
         // A chain that is joined by its highest number.
         leaves("p00000;p00004;p00006;p00010;p00008;", "a chain", x -> x.side(0, 0), 1);
         leaves("p00102;", "none THERE, GROUPS", x -> x.side(0, 0), 0);
@@ -598,6 +619,7 @@ public final class PromisesTest {
         leaves("p00000;p00101;x0;", "FREE", x -> x.free(0), 35);
         leaves("p00000;p00101;p00107;p00006;", "PAIRS", x -> x.free(1), 4);
         leaves("p00000;p00101;p00107;p00006;x1;", "PAIRS", x -> x.free(1), 2);
+        leaves("p00101;p00000;", "PAIRS with the first", x -> x.free(1), 1);
         leaves("p00000;p00102;p00005;p00106;", "PAIRS, not round the edge", x -> x.free(1), 1);
         leaves("p00032;p00002;p00103;p00135;", "QUIET", x -> x.free(2), 5);
         leaves("p00032;p00002;p00103;p00135;x0;", "QUIET", x -> x.free(2), 4);
@@ -716,6 +738,9 @@ public final class PromisesTest {
         String deaf = "p60003;p60002;p60004;p00133;";
         leaves(deaf, "above", x -> x.rain(3, 1, 5, 0), 4);
         leaves(deaf, "below", x -> x.rain(3, 1, 5, 1), 5);
+        leaves(deaf, "two DAYS, above", x -> x.rain(3, 2, 20, 0), 19);
+        leaves(deaf, "two DAYS, below", x -> x.rain(3, 2, 20, 1), 20);
+        leaves("p60003;p60001;p60002;p60005;p00133;", "not in rain either", x -> x.rain(4, 7, 5, 0), 1);
         leaves(deaf, "no DAYS", x -> x.rain(3, 0, 5, 0) * 10 + x.rain(3, 0, 5, 1), 11);
         for (long part = 0; part < 2; part++) {
             int told = (int) part;
@@ -795,6 +820,13 @@ public final class PromisesTest {
         leaves("p00002;t1;", "TURN as now", x -> x.games(1, 1, 1), 15);
         leaves("p30002;", "DAY as now: 2, 4", x -> x.games(1, 1, 1), 16);
         leaves("p30002;d01;t0;", "DAY as now: 2", x -> x.games(1, 1, 1), 15);
+        // Of ten on a board some DRAWS meet, and go on from 35 to 0.
+        String all = "p00000;p13101;p25002;p34103;p45004;p55105;p66006;p77107;p02008;p15109;";
+        int[][] due = {{12345, 183, 145}, {-9, 174, 99}, {0, 175, 140}, {1, 183, 100}, {LEAST, 175, 140}};
+        for (int[] line : due) {
+            leaves(all, "games(20, " + line[0] + ", 0)", x -> x.games(20, line[0], 0), line[1]);
+            leaves(all, "games(20, " + line[0] + ", 1)", x -> x.games(20, line[0], 1), line[2]);
+        }
         for (int n : new int[] {0, 21, -1, LEAST, MOST}) {
             leaves("p00002;", "games(" + n + ", 1, 0)", x -> x.games(n, 1, 0), -1);
         }
