@@ -81,11 +81,8 @@ public final class TakenUpByThePieces {
 
     public int game(int d) {
         Shelf text = shelfAt(d);
-        if (text == null) {
-            return NO_SUCH;
-        }
-        int refusal = text.refusalWithoutRow();
-        if (refusal != 0) {
+        int refusal = refusalUnless(text, HOLDS_ROW);
+        if (text == null || refusal != 0) {
             return refusal;
         }
         if (text.sort != BYTES) {
@@ -132,7 +129,7 @@ public final class TakenUpByThePieces {
         if (shelf == null || !isSide(side) || !isSquare(square)) {
             return NO_SUCH;
         }
-        int refusal = shelf.refusalWithoutKind();
+        int refusal = refusalUnless(shelf, HOLDS_KIND);
         if (refusal != 0) {
             return refusal;
         }
@@ -353,7 +350,7 @@ public final class TakenUpByThePieces {
         if (row == null || !now.has(p) || what < 0 || what > 1) {
             return NO_SUCH;
         }
-        int refusal = row.refusalWithoutRow();
+        int refusal = refusalUnless(row, HOLDS_ROW);
         if (refusal != 0) {
             return refusal;
         }
@@ -380,7 +377,7 @@ public final class TakenUpByThePieces {
         if (!now.isThere(p)) {
             return NOT_SO;
         }
-        int refusal = row.refusalWithoutRow();
+        int refusal = refusalUnless(row, HOLDS_ROW);
         if (refusal != 0) {
             return refusal;
         }
@@ -447,11 +444,8 @@ public final class TakenUpByThePieces {
 
     public int forged(int d) {
         Shelf row = shelfAt(d);
-        if (row == null) {
-            return NO_SUCH;
-        }
-        int refusal = row.refusalWithoutRow();
-        if (refusal != 0) {
+        int refusal = refusalUnless(row, HOLDS_ROW);
+        if (row == null || refusal != 0) {
             return refusal;
         }
         for (int p = 0; p < row.size; p++) {
@@ -464,11 +458,8 @@ public final class TakenUpByThePieces {
 
     public int judge(int d) {
         Shelf row = shelfAt(d);
-        if (row == null) {
-            return NO_SUCH;
-        }
-        int refusal = row.refusalWithoutRow();
-        if (refusal != 0) {
+        int refusal = refusalUnless(row, HOLDS_ROW);
+        if (row == null || refusal != 0) {
             return refusal;
         }
         mind.becomes(now);
@@ -558,11 +549,8 @@ public final class TakenUpByThePieces {
 
     public int put(int d, int i, int v) {
         Shelf shelf = shelfAt(d);
-        if (shelf == null) {
-            return NO_SUCH;
-        }
-        int refusal = shelf.refusalWithoutRow();
-        if (refusal != 0) {
+        int refusal = refusalUnless(shelf, HOLDS_ROW);
+        if (shelf == null || refusal != 0) {
             return refusal;
         }
         return shelf.putIn(i, v) ? 0 : NO_PLACE;
@@ -603,20 +591,14 @@ public final class TakenUpByThePieces {
 
     public int cost(int d) {
         Shelf shelf = shelfAt(d);
-        if (shelf == null) {
-            return NO_SUCH;
-        }
-        int refusal = shelf.refusalWithoutKind();
-        return refusal != 0 ? refusal : Kinds.costWith(shelf.kind, shelf.figure);
+        int refusal = refusalUnless(shelf, HOLDS_KIND);
+        return shelf == null || refusal != 0 ? refusal : Kinds.costWith(shelf.kind, shelf.figure);
     }
 
     public int toss(int d) {
         Shelf shelf = shelfAt(d);
-        if (shelf == null) {
-            return NO_SUCH;
-        }
-        int refusal = shelf.refusalWithoutKind();
-        if (refusal != 0) {
+        int refusal = refusalUnless(shelf, HOLDS_KIND);
+        if (shelf == null || refusal != 0) {
             return refusal;
         }
         try {
@@ -660,6 +642,17 @@ public final class TakenUpByThePieces {
     /** The SHELF with that number; null: there is none. */
     private Shelf shelfAt(int d) {
         return d >= 0 && d < shelves.length ? shelves[d] : null;
+    }
+
+    /** Why a SHELF is of no use to one who wants such a thing on it; 0: it is. */
+    private static int refusalUnless(Shelf shelf, int holds) {
+        if (shelf == null) {
+            return NO_SUCH;
+        }
+        if (shelf.holds == HOLDS_NOTHING) {
+            return NOTHING_HELD;
+        }
+        return shelf.holds == holds ? 0 : OTHER_KIND;
     }
 
     /** Does the STATEMENT at a place, in mind: whether it is as it must be. */
@@ -1239,20 +1232,6 @@ public final class TakenUpByThePieces {
         int sort = BYTES;
         int size = 0;
         final int[] elements = new int[MOST_ELEMENTS];
-
-        int refusalWithoutRow() {
-            if (holds == HOLDS_NOTHING) {
-                return NOTHING_HELD;
-            }
-            return holds == HOLDS_ROW ? 0 : OTHER_KIND;
-        }
-
-        int refusalWithoutKind() {
-            if (holds == HOLDS_NOTHING) {
-                return NOTHING_HELD;
-            }
-            return holds == HOLDS_KIND ? 0 : OTHER_KIND;
-        }
 
         void becomesRow(int ofSort, int n) {
             holds = HOLDS_ROW;

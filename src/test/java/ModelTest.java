@@ -1340,10 +1340,12 @@ public final class ModelTest {
         }
     }
 
-    /** Boards on which two have no pair, or both have IDEAS: too rare to come by chance. */
+    /** Boards on which two have no pair, or both have IDEAS, or a loss of just 5 tells: rare by chance. */
     static void rarePairs() {
         for (String text : new String[] {"p51026;p60114;p42132;p42002;", "p41131;p61006;p22013;p71001;p41125;",
             "p41009;p02134;p12031;p20133;p10120;p30003;", "p62018;p41127;p40015;p50006;p40121;",
+            "p25002;p42020;p62110;p30107;p31119;p44004;", "p03002;p20003;p71026;p43100;p75027;",
+            "p50020;p12008;p73012;p55003;p40127;p23025;", "p15116;p60134;p40133;p14031;p43026;",
             "p41127;p60007;p42032;p62009;p21121;", "p11120;p72025;p21009;p41121;p50115;p00026;"}) {
             x = new TakenUpByThePieces();
             m = new Model();

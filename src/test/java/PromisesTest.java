@@ -716,6 +716,10 @@ public final class PromisesTest {
         leaves("p10001;p00132;p20131;", "the other", x -> x.two(1, 0, 2), 1);
         leaves("p10001;p00132;p20131;", "not on DAY 1", x -> x.two(0, 1, 1), 0);
         leaves("p51026;p60114;p42132;p42002;", "both", x -> x.two(0, 1, 3), 11);
+        leaves("p25002;p42020;p62110;p30107;p31119;p44004;", "5, not 4", x -> x.two(0, 1, 2), 10);
+        leaves("p03002;p20003;p71026;p43100;p75027;", "5, not 4", x -> x.two(0, 1, 2), 1);
+        leaves("p50020;p12008;p73012;p55003;p40127;p23025;", "5, not 6", x -> x.two(0, 1, 2), 1);
+        leaves("p15116;p60134;p40133;p14031;p43026;", "5, not 6", x -> x.two(0, 1, 5), 0);
         leaves("p41131;p61006;p22013;p71001;p41125;", "no pair", x -> x.two(0, 1, 3), -4);
         leaves("p00002;p00003;", "one twice", x -> x.two(0, 0, 1), -1);
         leaves("p00002;p00003;", "n 0", x -> x.two(0, 1, 0), -1);
