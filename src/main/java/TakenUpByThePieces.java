@@ -43,6 +43,10 @@ public final class TakenUpByThePieces {
     private static final int BYTES = 0;
     private static final int SHORTS = 1;
     private static final int INTS = 2;
+    private static final int LEAST_BYTE = -128;
+    private static final int LEAST_SHORT = -32768;
+    private static final int LEAST_INT = 0x80000000;
+    private static final int ALL_BUT_SIGN = 0x7fffffff;
 
     private static final int MOST_DAYS = 60;
     private static final int STILL_LATEST = 40;
@@ -761,7 +765,7 @@ public final class TakenUpByThePieces {
 
     private int draw(int below) {
         seed = seed * 1103515245 + 12345;
-        return below <= 0 ? 0 : (seed & Integer.MAX_VALUE) / 65536 % below;
+        return below <= 0 ? 0 : (seed & ALL_BUT_SIGN) / 65536 % below;
     }
 
     /** A new game in mind: all PIECES THERE, each on the first SQUARE from its DRAW on where none stands. */
@@ -1263,7 +1267,7 @@ public final class TakenUpByThePieces {
 
         /** Whether the element is the least number of its SORT. */
         boolean isSkipped(int i) {
-            int least = sort == BYTES ? -128 : sort == SHORTS ? -32768 : Integer.MIN_VALUE;
+            int least = sort == BYTES ? LEAST_BYTE : sort == SHORTS ? LEAST_SHORT : LEAST_INT;
             return elementAt(i) == least;
         }
 

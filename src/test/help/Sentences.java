@@ -21,6 +21,10 @@ abstract class Sentences {
     static final String DAY_999 = DAY_960 + "d39;";
     static final String TEN = "p00000;p00001;p00002;p00003;p00004;p00105;p00106;p00107;p00108;p00109;";
 
+    /** Each hears from afar, and has an IDEA till it stands in the last corner; none is ever TAKEN. */
+    static final String TEN_QUEENS = "p40000;p40001;p40002;p40003;p40004;p40005;p40006;p40007;p40008;p40009;";
+    static final String TEN_BLACK_QUEENS = "p40100;p40101;p40102;p40103;p40104;p40105;p40106;p40107;p40108;p40109;";
+
     private static final Path DOCUMENT = Path.of("..", "shared", "DOC.md");
     private static final String WORDS = wordsOf(DOCUMENT);
     private static final TreeSet<Integer> PROMISES = new TreeSet<>();
@@ -28,6 +32,8 @@ abstract class Sentences {
     private static int passed = 0;
     private static int failed = 0;
     private static String about = "";
+    /** Whether an object has THE IMAGE of a board with nobody on it from the beginning. */
+    private static boolean withImage = false;
 
     interface Call {
         long of(Game x);
@@ -100,7 +106,11 @@ abstract class Sentences {
     // ---- objects in a told state
 
     static Game fresh() {
-        return new Game();
+        Game x = new Game();
+        if (withImage) {
+            x.image();
+        }
+        return x;
     }
 
     /** An object made by the STATEMENTS of a text, but by calls that are cheaper than game(). */
@@ -159,6 +169,11 @@ abstract class Sentences {
         }
     }
 
+    /** A SQUARE as a text tells it. */
+    static String twoDigits(int number) {
+        return (number < 10 ? "0" : "") + number;
+    }
+
     /** The same element over and over. */
     static int[] times(int n, int element) {
         int[] all = new int[n];
@@ -193,6 +208,13 @@ abstract class Sentences {
 
     /** The same, of a call that asks or is refused: then all is as on a twin that has not been called. */
     static void leaves(Made made, String call, Call asked, long want) {
+        leavesWithoutImage(made, call, asked, want);
+        withImage = true;
+        leavesWithoutImage(made, call + ", with THE IMAGE of nobody,", asked, want);
+        withImage = false;
+    }
+
+    static void leavesWithoutImage(Made made, String call, Call asked, long want) {
         Game x = made.make();
         Game twin = made.make();
         is(call, asked.of(x), want);

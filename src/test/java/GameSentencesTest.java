@@ -26,7 +26,7 @@ public final class GameSentencesTest extends Sentences {
             ask("", "element(" + d + ", 0)", x -> x.element(shelf, 0), STATE);
         }
         sentence(1, "-3 there is none.");
-        leaves("", "restore()", x -> x.restore(), -3);
+        leavesWithoutImage(() -> told(""), "restore()", x -> x.restore(), -3);
         Game first = told(TEN + "d05;");
         first.image();
         Game second = fresh();
@@ -485,10 +485,13 @@ public final class GameSentencesTest extends Sentences {
             int other = square;
             boolean isNear = Arrays.stream(near).anyMatch(s -> s == other);
             if (square != 14) {
-                idea("p50014;p001" + two(square) + ";", isNear ? 8 : -4);
-                idea("p50014;p000" + two(square) + ";", -4);
+                idea("p50014;p001" + twoDigits(square) + ";", isNear ? 8 : -4);
+                idea("p50014;p000" + twoDigits(square) + ";", -4);
             }
         }
+        ask("p00121;p50014;", "IDEA of 1", x -> x.piece(1, 6), 8);
+        ask("p00121;p00035;p50014;", "IDEA of 2", x -> x.piece(2, 6), 8);
+        idea("p50014;p00035;p00121;", 8);
         idea("p50014;p00121;p00008;", -4);
         idea("p50014;p00121;p00108;", -4);
         idea("p50014;p00121;x1;", -4);
@@ -506,10 +509,6 @@ public final class GameSentencesTest extends Sentences {
         idea("p50020;p00107;", -4);
         idea("p50020;p00126;", 14);
         idea("p50020;p00127;", 14);
-    }
-
-    static String two(int number) {
-        return (number < 10 ? "0" : "") + number;
     }
 
     static void deafAndNunIdeas() {
@@ -619,6 +618,7 @@ public final class GameSentencesTest extends Sentences {
     static void comesRefuses() {
         sentence(5, "-1, -11, -12 (a ROW), -2, -3 one is THERE on it.");
         shelfRefusals("comes", false, (x, d) -> x.comes(d, 0, 3));
+        sentence(5, "Answers of several REFUSALS are the first one as they are told at the call.");
         leaves(comer(TEN), "-1 (d) and -2", x -> x.comes(8, 0, 35), -1);
         leaves(comer("p00014;"), "-1 (side) and -11", x -> x.comes(3, 2, 3), -1);
         leaves(comer("p00014;"), "-1 (square) and -11", x -> x.comes(3, 0, 36), -1);
@@ -656,6 +656,7 @@ public final class GameSentencesTest extends Sentences {
         leaves("p00014;p00100;", "another one", y -> y.stands(0, 0), -3);
         leaves("p00014;p00135;", "another one", y -> y.stands(0, 35), -3);
         ask("p00014;p00115;x1;", "one TAKEN is not THERE", y -> y.stands(0, 15), 14);
+        sentence(6, "Answers of several REFUSALS are the first one as they are told at the call.");
         leaves("p00014;p00115;", "-1 (p) and -3", y -> y.stands(2, 15), -1);
     }
 
@@ -691,12 +692,14 @@ public final class GameSentencesTest extends Sentences {
         sentence(9, "n DAYS (1 .. 60): how many are THERE. -1, -3 DAY above 999.");
         ask("p00014;p00132;x1;", "days(1)", x -> x.days(1), 1);
         ask("", "days(60)", x -> x.days(60), 0);
-        ask("p40000;p40001;p40002;p40003;p40004;p40005;p40006;p40007;p40008;p40009;", "days(60)", x -> x.days(60), 10);
+        ask(TEN_QUEENS, "days(60)", x -> x.days(60), 10);
         ask("p20002;p00132;", "days(1)", x -> x.days(1), 1);
         bounds("p00002;", "days", 1, 60, (x, n) -> x.days(n));
         leaves(DAY_960 + "p00002;", "days(40)", x -> x.days(40), -3);
         leaves(DAY_960 + "p00002;", "days(60)", x -> x.days(60), -3);
         leaves(DAY_999 + "p00002;", "days(1)", x -> x.days(1), -3);
+        sentence(9, "Answers of several REFUSALS are the first one as they are told at the call.");
+        leaves(DAY_999, "-1 (n 0) and -3", x -> x.days(0), -1);
         leaves(DAY_999, "-1 (n 61) and -3", x -> x.days(61), -1);
         leaves(DAY_999, "-1 (n most) and -3", x -> x.days(MOST), -1);
         sentence(9, "days() is refused (-3; in THE TEXT kind 2), if DAY and n together are above 999;"

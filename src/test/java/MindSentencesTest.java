@@ -3,6 +3,9 @@ public final class MindSentencesTest extends Sentences {
     /** Black's BISHOP goes on DAYS 22, 44, 66, and takes the KING, who has no way back, on DAY 66. */
     static final String BISHOP_OF_66 = "p39124;p50009;p00003;";
 
+    /** White's ROOK goes ahead and takes the PAWN, as KINGS agree who hear it from afar. */
+    static final String FROM_AFAR = "p20002;p50004;p50005;p00132;";
+
     // ---- promises 10 to 14: days on
 
     static void squareThen() {
@@ -44,9 +47,9 @@ public final class MindSentencesTest extends Sentences {
         leaves("", "nobody is THERE", x -> x.then(60, 0), 0);
         leaves("", "no WORTH of white", x -> x.then(60, 2), 0);
         leaves("", "no WORTH of black", x -> x.then(60, 3), 0);
-        leaves("p40000;p40001;p40002;p40003;p40004;p40005;p40006;p40007;p40008;p40009;", "all ten", x -> x.then(60, 0), 1023);
-        leaves("p40000;p40001;p40002;p40003;p40004;p40005;p40006;p40007;p40008;p40009;", "WORTH", x -> x.then(60, 2), 90);
-        leaves("p40100;p40101;p40102;p40103;p40104;p40105;p40106;p40107;p40108;p40109;", "WORTH", x -> x.then(0, 3), 90);
+        leaves(TEN_QUEENS, "all ten", x -> x.then(60, 0), 1023);
+        leaves(TEN_QUEENS, "WORTH", x -> x.then(60, 2), 90);
+        leaves(TEN_BLACK_QUEENS, "WORTH", x -> x.then(0, 3), 90);
         leaves(TEN + "x0;", "all but one", x -> x.then(0, 0), 1022);
         leaves(TEN + "x9;", "all but one", x -> x.then(0, 0), 511);
         leaves(BISHOP_OF_66 + "d06;", "THERE behind 59", x -> x.then(59, 0), 7);
@@ -54,6 +57,8 @@ public final class MindSentencesTest extends Sentences {
         leaves(BISHOP_OF_66 + "d06;", "WORTH of white behind 59", x -> x.then(59, 2), 10);
         leaves(BISHOP_OF_66 + "d06;", "WORTH of white behind 60", x -> x.then(60, 2), 1);
         leaves(BISHOP_OF_66 + "d06;", "WORTH of black behind 60", x -> x.then(60, 3), 4);
+        leaves("p20002;p40132;p00135;", "WORTH of black behind 0", x -> x.then(0, 3), 10);
+        leaves("p20002;p40132;p00135;", "WORTH of black behind 1", x -> x.then(1, 3), 1);
         leaves(BISHOP_OF_66 + "d06;", "THOUGHT behind 0", x -> x.then(0, 1), 6);
         leaves(BISHOP_OF_66 + "d06;", "THOUGHT behind 60", x -> x.then(60, 1), 63);
         sentence(11, "(DAY may pass 999 there)");
@@ -70,6 +75,7 @@ public final class MindSentencesTest extends Sentences {
         leaves(BISHOP_OF_66 + "d05;", "behind 61", x -> x.falls(1), -4);
         leaves(BISHOP_OF_66 + "d06;", "never", x -> x.falls(0), -4);
         leaves("p00002;", "never", x -> x.falls(0), -4);
+        leaves(FROM_AFAR, "with EARS from afar", x -> x.falls(3), 1);
         sentence(12, "FALLS of one TAKEN already: 0.");
         leaves("p00002;x0;", "falls(0)", x -> x.falls(0), 0);
         leaves(TEN + "x9;", "falls(9)", x -> x.falls(9), 0);
@@ -81,8 +87,12 @@ public final class MindSentencesTest extends Sentences {
         leaves("p22002;p00132;p00133;p22003;", "the first of two", x -> x.falls(-1), 1);
         leaves("p22003;p00132;p00133;p22002;", "the first of two, the greater", x -> x.falls(-1), 2);
         leaves("p00002;p20003;p00133;x0;", "not one TAKEN already", x -> x.falls(-1), 2);
+        leaves(FROM_AFAR, "with EARS from afar", x -> x.falls(-1), 3);
         leaves("p00002;x0;", "nobody", x -> x.falls(-1), -4);
         leaves("", "nobody", x -> x.falls(-1), -4);
+        sentence(12, "(DAY may pass 999 there)");
+        leaves(DAY_999 + "t0;p38014;p50121;", "on DAY 1000", x -> x.falls(1), 1);
+        leaves(DAY_999 + "t0;p38014;p50121;", "on DAY 1000", x -> x.falls(-1), 1);
         sentence(12, "FALLS (-4); FIRST (p -1; -4). -1 (p below -1, too).");
         bounds("p00002;p00003;", "falls", -1, 1, (x, p) -> x.falls(p));
         bounds(TEN, "falls", -1, 9, (x, p) -> x.falls(p));
@@ -106,7 +116,11 @@ public final class MindSentencesTest extends Sentences {
         leaves("p37012;d06;", "the last DAY is 39 off", x -> x.still(), 39);
         leaves("p37012;d05;", "the last DAY is 40 off", x -> x.still(), 40);
         leaves("p37012;d04;", "the last DAY is 41 off", x -> x.still(), -4);
-        leaves(DAY_999, "DAY 1059", x -> x.still(), 0);
+        leaves(FROM_AFAR, "of one who goes by EARS from afar", x -> x.still(), 1);
+        sentence(13, "(DAY may pass 999 there)");
+        leaves(DAY_999, "of nobody", x -> x.still(), 0);
+        leaves(DAY_999 + "t0;p38024;", "of one who goes on DAY 1000", x -> x.still(), 1);
+        leaves(DAY_999 + "t0;p37012;", "of one who goes behind DAY 999", x -> x.still(), -4);
         sentence(13, "STILL: SQUARES alone count.");
         leaves("p00032;d60;", "THOUGHT, DAY and TURN go on", x -> x.still(), 0);
         leaves("p00032;x0;", "of one TAKEN", x -> x.still(), 0);
@@ -149,7 +163,7 @@ public final class MindSentencesTest extends Sentences {
             for (int figure = 0; figure < 2; figure++) {
                 for (int square = 1; square < 36; square++) {
                     int far = Math.max(square / 6, square % 6);
-                    String text = "p50000;p" + kind + figure + "0" + two(square) + ";";
+                    String text = "p50000;p" + kind + figure + "0" + twoDigits(square) + ";";
                     ask(text, "heard(0)", x -> x.heard(0), far <= earsByFigure[kind][figure] ? 3 : 1);
                 }
             }
@@ -173,10 +187,6 @@ public final class MindSentencesTest extends Sentences {
         pieceBounds("heard", (x, p) -> x.heard(p));
         leaves("p00014;p00015;x0;", "TAKEN", x -> x.heard(0), -3);
         leaves(TEN + "x9;", "TAKEN", x -> x.heard(9), -3);
-    }
-
-    static String two(int number) {
-        return (number < 10 ? "0" : "") + number;
     }
 
     static void danger() {
@@ -226,16 +236,24 @@ public final class MindSentencesTest extends Sentences {
         leaves("t1;p10100;p00132;p40022;", "the least of two SQUARES", x -> x.stand(0, 1, 0), 33);
         leaves("p00000;p40101;p40102;p40103;p40104;p40105;p40106;p40107;p40108;p40109;", "difference, the least",
                 x -> x.stand(0, 0, 1), 20);
-        leaves("p40000;p40001;p40002;p40003;p40004;p40005;p40006;p40007;p40008;p40009;", "difference, the most",
+        leaves(TEN_QUEENS, "difference, the most",
                 x -> x.stand(0, 20, 1), 190);
+        leaves("t1;p50002;p20132;p00008;", "its own SIDE's loss, where", x -> x.stand(0, 1, 0), 0);
+        leaves("t1;p50002;p20132;p00008;", "its own SIDE's loss, difference", x -> x.stand(0, 1, 1), 104);
+        leaves("t1;p50002;p20132;", "its own loss, where", x -> x.stand(0, 1, 0), 0);
+        leaves("t1;p50002;p20132;", "its own loss, difference", x -> x.stand(0, 1, 1), 104);
         leaves("p40000;p40101;", "difference 0", x -> x.stand(0, 0, 1), 100);
         leaves("p00100;p40001;", "black's difference", x -> x.stand(0, 0, 1), 92);
+        sentence(17, "(DAY may pass 999 there)");
+        leaves(DAY_999 + "t0;p38035;p50121;", "where, on DAY 1000", x -> x.stand(0, 1, 0), 14);
+        leaves(DAY_999 + "t0;p38035;p50121;", "difference, on DAY 1000", x -> x.stand(0, 1, 1), 103);
         sentence(17, "STAND: where (what 0), the difference and 100 (1). -1, -3 TAKEN.");
         pieceBounds("stand(p, 0, 0)", (x, p) -> x.stand(p, 0, 0));
         pieceBounds("stand(p, 20, 1)", (x, p) -> x.stand(p, 20, 1));
         bounds("p00014;", "stand(0, 20, what)", 0, 1, (x, what) -> x.stand(0, 20, what));
         leaves("p00014;x0;", "TAKEN", x -> x.stand(0, 0, 0), -3);
         leaves(TEN + "x9;", "TAKEN", x -> x.stand(9, 20, 1), -3);
+        sentence(17, "Answers of several REFUSALS are the first one as they are told at the call.");
         leaves("p00014;x0;", "-1 (n 21) and -3", x -> x.stand(0, 21, 0), -1);
         leaves("p00014;x0;", "-1 (n -1) and -3", x -> x.stand(0, -1, 0), -1);
         leaves("p00014;x0;", "-1 (what 2) and -3", x -> x.stand(0, 0, 2), -1);
@@ -260,8 +278,11 @@ public final class MindSentencesTest extends Sentences {
         leaves("p20002;p00132;p00133;", "its own WORTH does not count", x -> x.off(1), -4);
         leaves("", "nobody", x -> x.off(30), -4);
         leaves("p00002;x0;", "nobody THERE", x -> x.off(0), -4);
-        leaves("p40000;p40001;p40002;p40003;p40004;p40005;p40006;p40007;p40008;p40009;", "ten who lose nothing",
+        leaves(TEN_QUEENS, "ten who lose nothing",
                 x -> x.off(30), -4);
+        sentence(18, "(DAY may pass 999 there)");
+        leaves(DAY_999 + "t0;p00020;p10026;p39130;", "behind DAY 1022", x -> x.off(23), -4);
+        leaves(DAY_999 + "t0;p00020;p10026;p39130;", "behind DAY 1023", x -> x.off(24), 1);
         sentence(18, "OFF; -4. -1.");
         bounds("", "off of nobody", 0, 30, (x, n) -> x.off(n));
     }
@@ -277,10 +298,14 @@ public final class MindSentencesTest extends Sentences {
                 int lacks = Math.max(0, far - fixed[kind]);
                 int due = lacks == 0 ? 0 : grows ? lacks : -4;
                 for (int figure = 0; figure < 10; figure += 9) {
-                    ask("p" + kind + figure + "000;p000" + two(square) + ";", "ears(0, 1)", x -> x.ears(0, 1), due);
+                    ask("p" + kind + figure + "000;p000" + twoDigits(square) + ";", "ears(0, 1)", x -> x.ears(0, 1), due);
                 }
             }
         }
+        leaves("p20034;p00035;", "1 off", x -> x.ears(0, 1), 1);
+        leaves("p20135;p00105;", "black's, 5 off", x -> x.ears(0, 1), 5);
+        leaves("p00014;p20112;p00016;p00115;", "black's, 3 off", x -> x.ears(1, 3), 3);
+        leaves(TEN, "the last of ten", x -> x.ears(9, 8), 0);
         leaves("p20000;p00135;", "the other SIDE", x -> x.ears(0, 1), -4);
         leaves("p20000;p00101;", "the other SIDE, near", x -> x.ears(0, 1), -4);
         leaves("p20000;p00001;x0;", "TAKEN", x -> x.ears(0, 1), -4);
@@ -315,6 +340,9 @@ public final class MindSentencesTest extends Sentences {
         leaves("p00000;p00004;p00002;x2;", "by one TAKEN", x -> x.side(0, 0), 2);
         leaves("p00000;p00004;p00102;", "by one of the other SIDE", x -> x.side(0, 0), 2);
         leaves("p60000;p60035;p50014;", "by a KING", x -> x.side(0, 0), 1);
+        leaves("p00135;p60000;p50001;", "by a KING, the first is of the other SIDE", x -> x.side(0, 0), 1);
+        leaves("p00135;p50001;p60000;", "by a KING, the first is of the other SIDE", x -> x.side(0, 0), 1);
+        leaves("p00035;x0;p60100;p60105;p50114;", "by a KING, the first is TAKEN", x -> x.side(1, 0), 1);
         String chain = "p21000;p21035;p21001;p21034;p21002;p21033;p21003;p21032;p21004;p21031;";
         leaves(chain, "two chains of five", x -> x.side(0, 0), 2);
         leaves("p21000;p21001;p21002;p21003;p21004;p21005;p21011;p21017;p21023;p21029;", "a chain of ten",
@@ -361,8 +389,8 @@ public final class MindSentencesTest extends Sentences {
         for (int square = 0; square < 36; square++) {
             int far = Math.max(Math.abs(square / 6 - 2), Math.abs(square % 6 - 2));
             if (square != 14) {
-                ask("p00014;p001" + two(square) + ";", "PAIRS", x -> x.free(1), far == 1 ? 1 : 0);
-                ask("p00114;p000" + two(square) + ";", "PAIRS", x -> x.free(1), far == 1 ? 1 : 0);
+                ask("p00014;p001" + twoDigits(square) + ";", "PAIRS", x -> x.free(1), far == 1 ? 1 : 0);
+                ask("p00114;p000" + twoDigits(square) + ";", "PAIRS", x -> x.free(1), far == 1 ? 1 : 0);
             }
         }
         leaves("p00005;p00106;", "not round the edge", x -> x.free(1), 0);
@@ -416,6 +444,10 @@ public final class MindSentencesTest extends Sentences {
         kindsAndFigures(with("p00014;p20002;p20132;t1;", 0, 14, 14), 0, 0);
         kindsAndFigures(with("p00132;p20002;", 0, 32, 36), 255, 1023);
         kindsAndFigures(with("p00132;p20002;", 0, 36, 36), 0, 0);
+        leaves(with(FROM_AFAR, 0, 2, 32), "KINDS, with EARS from afar", x -> x.whatIs(1, 0, 0), 4 + 16 + 64);
+        leaves(with(FROM_AFAR, 0, 32, 36), "KINDS of one who is TAKEN by them", x -> x.whatIs(1, 3, 0), 255);
+        sentence(22, "(DAY may pass 999 there)");
+        kindsAndFigures(with(DAY_999 + "t0;p38014;", 0, 14, 21), 8, 1 + 4 + 8 + 64 + 256);
         leastIsSkipped();
         whatIsRefuses();
     }
@@ -461,6 +493,7 @@ public final class MindSentencesTest extends Sentences {
         bounds(with(TEN, 0, 0), "whatIs(1, p, 1)", 0, 9, (x, p) -> x.whatIs(1, p, 1), -1);
         bounds(with("p00014;", 0, 14), "whatIs(1, p, 0) of one", 0, 0, (x, p) -> x.whatIs(1, p, 0), -1);
         bounds(with(TEN, 0, 0), "whatIs(1, 0, what)", 0, 1, (x, what) -> x.whatIs(1, 0, what), -1);
+        sentence(22, "Answers of several REFUSALS are the first one as they are told at the call.");
         leaves(heldBoth(), "-1 (p) and -11", x -> x.whatIs(3, 2, 0), -1);
         leaves(heldBoth(), "-1 (what) and -11", x -> x.whatIs(3, 0, 2), -1);
         leaves(heldBoth(), "-1 (p) and -12", x -> x.whatIs(2, -1, 0), -1);
@@ -535,6 +568,7 @@ public final class MindSentencesTest extends Sentences {
             x.takes(1);
             return x;
         };
+        sentence(23, "Answers of several REFUSALS are the first one as they are told at the call.");
         leaves(taken, "-1 (what) and -3", x -> x.whereFrom(1, 1, 3), -1);
         leaves(taken, "-1 (what) and -11", x -> x.whereFrom(3, 0, -1), -1);
         leaves(taken, "-1 (what) and -12", x -> x.whereFrom(2, 0, 3), -1);
@@ -555,6 +589,10 @@ public final class MindSentencesTest extends Sentences {
         leaves("d14;p00020;p00034;p39130;", "behind 30", x -> x.two(1, 0, 30), 1);
         leaves("d14;p00020;p00034;p39130;", "behind 29", x -> x.two(0, 1, 29), 0);
         leaves("d14;p00020;p00034;p39130;", "behind 29", x -> x.two(1, 0, 29), 0);
+        leaves("d14;p00034;p39130;p00020;", "behind 30, of other numbers", x -> x.two(2, 0, 30), 10);
+        leaves("d14;p00034;p39130;p00020;", "behind 30, of other numbers", x -> x.two(0, 2, 30), 1);
+        leaves("d14;p39130;p00034;p00020;", "behind 30, of other numbers", x -> x.two(2, 1, 30), 10);
+        leaves("d14;p39130;p00034;p00020;", "behind 29, of other numbers", x -> x.two(2, 1, 29), 0);
         leaves("p00002;p00003;", "nothing to be had", x -> x.two(0, 1, 1), 0);
         leaves("p20002;p20132;", "who takes has nothing of it", x -> x.two(0, 1, 1), 0);
         // The ROOK goes when the PAWN hears it, be that one's IDEAS none; the KNIGHT does well to go ahead of it.
@@ -567,6 +605,9 @@ public final class MindSentencesTest extends Sentences {
         leaves("p03002;p20003;p71026;p43100;p75027;", "5, not 4", x -> x.two(0, 1, 2), 1);
         leaves("p50020;p12008;p73012;p55003;p40127;p23025;", "5, not 6", x -> x.two(0, 1, 2), 1);
         leaves("p15116;p60134;p40133;p14031;p43026;", "5, not 6", x -> x.two(0, 1, 5), 0);
+        sentence(24, "(DAY may pass 999 there)");
+        leaves(DAY_999 + "t0;p00014;p50035;p39124;", "behind DAY 1022", x -> x.two(0, 1, 23), 0);
+        leaves(DAY_999 + "t0;p00014;p50035;p39124;", "behind DAY 1023", x -> x.two(0, 1, 24), 10);
         sentence(24, "TWO; -4. -1 (one twice), -3 either is TAKEN.");
         pieceBounds("two(p, other, 1)", (x, p) -> x.two(p, p == 0 ? 1 : 0, 1));
         pieceBounds("two(other, p, 30)", (x, p) -> x.two(p == 0 ? 1 : 0, p, 30));
@@ -575,6 +616,7 @@ public final class MindSentencesTest extends Sentences {
         leaves("p00002;p00003;x0;", "the one is TAKEN", x -> x.two(0, 1, 1), -3);
         leaves("p00002;p00003;x1;", "the other is TAKEN", x -> x.two(0, 1, 1), -3);
         leaves("p00002;p00003;x0;x1;", "both are TAKEN", x -> x.two(0, 1, 30), -3);
+        sentence(24, "Answers of several REFUSALS are the first one as they are told at the call.");
         leaves("p00002;p00003;x0;", "-1 (one twice) and -3", x -> x.two(0, 0, 1), -1);
         leaves("p00002;p00003;x0;", "-1 (n 0) and -3", x -> x.two(0, 1, 0), -1);
         leaves("p00002;p00003;x0;", "-1 (n 31) and -3", x -> x.two(0, 1, 31), -1);
@@ -611,11 +653,14 @@ public final class MindSentencesTest extends Sentences {
         rain("p20002;p00132;", 1, 1, 20, 0, 1);
         rain("p20002;p00132;", 1, 7, 20, 0, 1);
         // Those who hear from afar do not in rain: then the ROOK stays where it is.
-        rain("p20002;p50004;p50005;p00132;", 3, 1, 20, 1, 20);
+        rain(FROM_AFAR, 3, 1, 20, 1, 20);
         rain("p20002;p50003;p50005;p00132;", 3, 1, 20, 0, 1);
         rain("p62001;p48118;p00134;p47019;", 2, 7, 20, 1279999639, 1280000000);
         rain("p40124;p47006;p22005;p78111;p41102;", 3, 7, 20, 1, 1280000000);
         rain("p40124;p47006;p22005;p78111;p41102;", 3, 7, 2, 1, 128);
+        sentence(25, "(DAY may pass 999 there)");
+        rain(DAY_999 + "t0;p38014;p50121;", 1, 1, 20, 0, 1);
+        rain(DAY_999 + "t0;p39014;p50121;", 1, 1, 20, 1, 1);
         sentence(25, "In RAIN a DEAF one has EARS 1, too.");
         rain("p60003;p60002;p50133;", 2, 1, 4, 3, 4);
         rain("p60003;p60001;p50133;", 2, 1, 4, 1, 1);
@@ -647,7 +692,7 @@ public final class MindSentencesTest extends Sentences {
         share("p10000;p10001;p40102;", 0, 2, 5);
         share("p40000;p20101;", 0, 9, 14);
         share("p00000;", 0, 1, 1);
-        share("p40100;p40101;p40102;p40103;p40104;p40105;p40106;p40107;p40108;p40109;", 1, 1, 1);
+        share(TEN_BLACK_QUEENS, 1, 1, 1);
         share("p00000;p40101;p40102;p40103;p40104;p40105;p40106;p40107;p40108;p40109;", 0, 1, 82);
         share("p00000;p10101;x1;", 0, 1, 1);
         sentence(26, "SHARE is 0 by 1 if its own is 0.");
@@ -718,7 +763,7 @@ public final class MindSentencesTest extends Sentences {
         judge("", 0, 0, 36);
         judge(TEN, 0, -4, 10);
         judge(TEN + "x0;", 0, -4, 9);
-        judge("p40000;p40001;p40002;p40003;p40004;p40005;p40006;p40007;p40008;p40009;", 0, -4, times(100, 10));
+        judge(TEN_QUEENS, 0, -4, times(100, 10));
         // White's BISHOP takes the KING on DAY 99.
         judge("p39000;p50135;", 0, -4, and(times(99, 2), 1));
         judge("p39000;p50135;", 0, 99, times(100, 2));
@@ -737,6 +782,7 @@ public final class MindSentencesTest extends Sentences {
         judge("p20002;p00132;", 1, 0, 256 + 2);
         judge("p20002;p00132;", 1, -4, 65536 + 2);
         judge("p20002;p00132;", 2, 0, 65536 + 2);
+        judge(FROM_AFAR, 0, -4, 4, 3);
         sentence(28, "(DAY may pass 999 there)");
         judge(DAY_999 + "t0;p38014;p50121;", 0, -4, 2, 1);
         sentence(28, "JUDGED by the ROW in SHELF d; -4. -1, -11, -12.");
@@ -756,10 +802,9 @@ public final class MindSentencesTest extends Sentences {
         leaves("", "nobody is THERE", x -> x.games(20, 1, 0), 0);
         leaves("", "THOUGHT of one", x -> x.games(1, 1, 1), 16);
         leaves("", "THOUGHT of twenty", x -> x.games(20, 1, 1), 320);
-        String ten = "p40000;p40001;p40002;p40003;p40004;p40005;p40006;p40007;p40008;p40009;";
-        leaves(ten, "ten in one", x -> x.games(1, 1, 0), 10);
-        leaves(ten, "ten in twenty", x -> x.games(20, 1, 0), 200);
-        leaves(ten + "x0;x5;x9;", "ten in twenty", x -> x.games(20, 1, 0), 200);
+        leaves(TEN_QUEENS, "ten in one", x -> x.games(1, 1, 0), 10);
+        leaves(TEN_QUEENS, "ten in twenty", x -> x.games(20, 1, 0), 200);
+        leaves(TEN_QUEENS + "x0;x5;x9;", "ten in twenty", x -> x.games(20, 1, 0), 200);
         // A KING on 35; then a PAWN draws 35 and goes on at 0: it has five SQUARES ahead of it.
         leaves("p50014;p00015;", "behind 35 is 0", x -> x.games(1, 848, 1), 11);
         leaves("p50014;p00015;", "behind 34 is 35", x -> x.games(1, 660, 1), 16);
@@ -767,12 +812,17 @@ public final class MindSentencesTest extends Sentences {
         leaves("p50014;p50015;p00016;", "35, 0, and behind 35 is 1", x -> x.games(1, 269374, 1), 11);
         leaves("p50014;p50015;p00016;", "35, behind it 0, and behind 0 is 1", x -> x.games(1, 8262, 1), 11);
         leaves("p50014;p50015;p00016;", "35, behind it 0, behind it 1", x -> x.games(1, 61425, 1), 11);
+        // Where they stand now is nothing to them: 35 is the KING's, though the PAWN stands there now.
+        leaves("p50014;p00035;", "35, where another stands now", x -> x.games(1, 848, 1), 11);
+        leaves("p50000;p00015;", "0, where another stands now", x -> x.games(1, 848, 1), 11);
         sentence(29, "GAMES: all PIECES are THERE, DAY and TURN as now.");
         leaves("p00002;x0;", "one TAKEN is THERE", x -> x.games(1, 1, 0), 1);
         leaves("d01;p00002;", "black's TURN", x -> x.games(1, 1, 1), 15);
         leaves("p30002;", "DAY 2, 4, .. are black's", x -> x.games(1, 1, 1), 16);
         leaves("p30002;t1;", "black's is DAY 1", x -> x.games(1, 1, 1), 15);
-        leaves(DAY_999 + "p00002;", "DAY 999", x -> x.games(20, 1, 0), 20);
+        leaves(DAY_999 + "p00002;", "THERE behind DAY 999", x -> x.games(20, 1, 0), 20);
+        leaves(DAY_999 + "t0;p38002;", "on DAY 1000", x -> x.games(1, 1, 1), 15);
+        leaves(DAY_999 + "t1;p38002;", "on no other DAY", x -> x.games(1, 1, 1), 16);
         draws();
         sentence(29, "GAMES: THERE (what 0), THOUGHT (1). -1.");
         bounds(TEN, "games(1, 1, what)", 0, 1, (x, what) -> x.games(1, 1, what));

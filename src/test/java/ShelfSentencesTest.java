@@ -30,8 +30,8 @@ public final class ShelfSentencesTest extends Sentences {
 
     static void restore() {
         sentence(31, "THE IMAGE is RESTORED: DAY. -3 there is none.");
-        leaves("", "restore()", x -> x.restore(), -3);
-        leaves(TEN + "d05;", "restore()", x -> x.restore(), -3);
+        leavesWithoutImage(() -> told(""), "restore()", x -> x.restore(), -3);
+        leavesWithoutImage(() -> told(TEN + "d05;"), "restore()", x -> x.restore(), -3);
         ask(DAY_999, "restore()", x -> x.image() + x.restore(), 1998);
         sentence(31, "RESTORED all is as it was then.");
         restored("", TEN + "x1;d09;");
@@ -152,6 +152,7 @@ public final class ShelfSentencesTest extends Sentences {
             leaves(heldBoth(), "row(2, " + sort + ", least)", x -> x.row(2, asked, LEAST), -14);
             leaves(heldBoth(), "row(3, " + sort + ", -1)", x -> x.row(3, asked, -1), -14);
         }
+        sentence(34, "Answers of several REFUSALS are the first one as they are told at the call.");
         leaves(heldBoth(), "-1 (d) and -14", x -> x.row(8, 0, -1), -1);
         leaves(heldBoth(), "-1 (d) and -14", x -> x.row(-1, 0, -1), -1);
         leaves(heldBoth(), "-1 (sort) and -14", x -> x.row(1, 3, -1), -1);
@@ -205,6 +206,7 @@ public final class ShelfSentencesTest extends Sentences {
             bounds(with("", sort, 7), "put(1, i, 5) of one", 0, 0, (x, i) -> x.put(1, i, 5), -13);
             leaves(with("", sort), "put(1, 0, 5) of none", x -> x.put(1, 0, 5), -13);
         }
+        sentence(35, "Answers of several REFUSALS are the first one as they are told at the call.");
         leaves(heldBoth(), "-1 and -13", x -> x.put(8, -1, 5), -1);
         leaves(heldBoth(), "-11 and -13", x -> x.put(3, -1, 5), -11);
         leaves(heldBoth(), "-12 and -13", x -> x.put(2, -1, 5), -12);
@@ -317,17 +319,19 @@ public final class ShelfSentencesTest extends Sentences {
         leaves(copied(), "from nothing", x -> x.copy(5, 0, 1, 0, 1), -11);
         leaves(copied(), "to nothing", x -> x.copy(1, 0, 5, 0, 1), -11);
         leaves(copied(), "from nothing to nothing", x -> x.copy(5, 0, 5, 0, 0), -11);
+        sentence(37, "Answers of several REFUSALS are the first one as they are told at the call.");
         leaves(copied(), "-11 (d) and -12 (e)", x -> x.copy(5, 0, 3, 0, 1), -11);
         leaves(copied(), "-11 (e) and -12 (d)", x -> x.copy(3, 0, 5, 0, 1), -11);
         leaves(copied(), "-11 and -13", x -> x.copy(5, 0, 1, 0, -1), -11);
+        leaves(copied(), "-12 and -13", x -> x.copy(2, 0, 0, 0, -1), -12);
+        leaves(copied(), "-12 and -13", x -> x.copy(3, -1, 0, 0, 1), -12);
+        sentence(37, "-12 (no ROWS of one SORT)");
         leaves(copied(), "from a KIND", x -> x.copy(3, 0, 1, 0, 1), -12);
         leaves(copied(), "to a KIND", x -> x.copy(1, 0, 3, 0, 1), -12);
         leaves(copied(), "from a KIND to itself", x -> x.copy(3, 0, 3, 0, 0), -12);
         leaves(copied(), "bytes to shorts", x -> x.copy(0, 0, 2, 0, 1), -12);
         leaves(copied(), "shorts to bytes", x -> x.copy(2, 0, 0, 0, 1), -12);
         leaves(copied(), "shorts to bytes, none", x -> x.copy(2, 0, 0, 0, 0), -12);
-        leaves(copied(), "-12 and -13", x -> x.copy(2, 0, 0, 0, -1), -12);
-        leaves(copied(), "-12 and -13", x -> x.copy(3, -1, 0, 0, 1), -12);
         sentence(37, "-13 a place that isn't there (a number or a size that isn't as told, too);");
         bounds(copied(), "copy(0, i, 1, 0, 1)", 0, 4, (x, i) -> x.copy(0, i, 1, 0, 1), -13);
         bounds(copied(), "copy(1, 0, 0, j, 1)", 0, 4, (x, j) -> x.copy(1, 0, 0, j, 1), -13);
